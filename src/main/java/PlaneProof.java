@@ -354,7 +354,7 @@ public final class PlaneProof {
 
     public int core(boolean set) {
         if (coreBits == UNASKED) {
-            coreBits = new CoreSearch(book).leastCore();
+            coreBits = book.leastCore();
         }
         if (coreBits == NONE) {
             return NONE;
@@ -671,6 +671,39 @@ public final class PlaneProof {
                 if (k != axiom) {
                     models &= lines[k].table;
                 }
+            }
+            return models;
+        }
+
+        /** The fewest axioms without a model together, as bits; NONE if all have one. */
+        int leastCore() {
+            return lesserCore(this, axioms, 0, -1L, NONE);
+        }
+
+        /**
+         * Decides on the axioms below open, the highest first, and first without it: so sets come in
+         * the order of their bits, and the first of a size stays best. open falls to 0, so it goes
+         * no deeper than there are axioms.
+         */
+        private static int lesserCore(Book book, int open, int chosen, long models, int best) {
+            if (best != NONE && Integer.bitCount(chosen) >= Integer.bitCount(best)) {
+                return best;
+            }
+            if (models == 0) {
+                return chosen;
+            }
+            if (open <= 0 || (models & book.modelsOfFirst(open)) != 0) {
+                return best;
+            }
+            long table = book.lines[open - 1].table;
+            int without = lesserCore(book, open - 1, chosen, models, best);
+            return lesserCore(book, open - 1, chosen | 1 << open - 1, models & table, without);
+        }
+
+        private long modelsOfFirst(int many) {
+            long models = -1L;
+            for (int k = 0; k < many && k < axioms; k++) {
+                models &= lines[k].table;
             }
             return models;
         }
@@ -1609,53 +1642,6 @@ public final class PlaneProof {
                 }
             }
             return best;
-        }
-    }
-
-    /** Looks for the fewest axioms without a model. */
-    private static final class CoreSearch {
-        private final Book book;
-        /** The models of the first k axioms together. */
-        private final long[] modelsOfFirst;
-        private int best;
-        private int bestSize;
-
-        CoreSearch(Book book) {
-            this.book = book;
-            modelsOfFirst = new long[MOST_AXIOMS + 1];
-            best = NONE;
-            bestSize = MOST_AXIOMS + 1;
-        }
-
-        int leastCore() {
-            modelsOfFirst[0] = -1L;
-            for (int k = 0; k < book.axioms && k < MOST_AXIOMS; k++) {
-                modelsOfFirst[k + 1] = modelsOfFirst[k] & book.lines[k].table;
-            }
-            choose(this, book.axioms, 0, -1L);
-            return best;
-        }
-
-        /**
-         * Decides on the axioms below open, the highest first and first without it: so sets come in
-         * the order of their bits, and the first of a size stays. open falls to 0: 16 levels at most.
-         */
-        private static void choose(CoreSearch search, int open, int chosen, long models) {
-            int chosenSize = Integer.bitCount(chosen);
-            if (chosenSize >= search.bestSize) {
-                return;
-            }
-            if (models == 0) {
-                search.best = chosen;
-                search.bestSize = chosenSize;
-                return;
-            }
-            if (open <= 0 || open > MOST_AXIOMS || (models & search.modelsOfFirst[open]) != 0) {
-                return;
-            }
-            long table = search.book.lines[open - 1].table;
-            choose(search, open - 1, chosen, models);
-            choose(search, open - 1, chosen | 1 << open - 1, models & table);
         }
     }
 
