@@ -821,23 +821,22 @@ public final class PlaneProof {
 
         /** The variables of the lits that both lines of a res have. */
         int litsInBoth(Line res) {
-            Line a = lines[res.first];
-            Line b = lines[res.second];
-            return a.variables() & b.variables() & ~(1 << res.number);
+            return lines[res.first].variables() & lines[res.second].variables() & ~(1 << res.number);
         }
 
         /** The variables of the other lits that a res leaves. */
         int litsInOne(Line res) {
-            return res.variables() & ~litsInBoth(res);
+            return lines[res.first].variables() ^ lines[res.second].variables();
         }
     }
 
     /** Cuts a text into words, numbers, and single signs. */
     private static final class Signs {
         private static final int END = 0;
-        private static final int WORD = 1;
-        private static final int NUMBER = 2;
-        private static final int SIGN = 3;
+        private static final int BLANK = 1;
+        private static final int WORD = 2;
+        private static final int NUMBER = 3;
+        private static final int SIGN = 4;
 
         private final byte[] text;
         private final int size;
@@ -859,54 +858,41 @@ public final class PlaneProof {
 
         void advance() {
             start = stop;
-            while (start < size && isBlank(byteAt(start))) {
+            while (start < size && kindAt(start) == BLANK) {
                 start++;
             }
-            stop = start;
-            int sign = byteAt(start);
-            if (start >= size) {
-                kind = END;
-            } else if (isLetter(sign)) {
-                kind = WORD;
-                skipLetters();
-            } else if (isDigit(sign)) {
-                kind = NUMBER;
-                skipDigits();
-            } else {
-                kind = SIGN;
+            kind = kindAt(start);
+            stop = kind == SIGN ? start + 1 : start;
+            while (stop < size && kind != SIGN && kindAt(stop) == kind) {
                 stop++;
             }
+            value = kind == NUMBER ? numberHere() : NONE;
         }
 
-        private void skipLetters() {
-            while (stop < size && isLetter(byteAt(stop))) {
-                stop++;
+        private int numberHere() {
+            int number = 0;
+            for (int k = start; k < stop && k < text.length; k++) {
+                number = k < start + 2 ? number * 10 + text[k] - '0' : NONE;
             }
-        }
-
-        private void skipDigits() {
-            value = 0;
-            while (stop < size && isDigit(byteAt(stop))) {
-                boolean tooLong = stop - start >= 2;
-                value = tooLong ? NONE : value * 10 + byteAt(stop) - '0';
-                stop++;
-            }
+            return number;
         }
 
         private int byteAt(int k) {
             return k >= 0 && k < size && k < text.length ? text[k] : 0;
         }
 
-        private static boolean isBlank(int sign) {
-            return sign == 9 || sign == 10 || sign == 32;
-        }
-
-        private static boolean isLetter(int sign) {
-            return sign >= 'a' && sign <= 'z';
-        }
-
-        private static boolean isDigit(int sign) {
-            return sign >= '0' && sign <= '9';
+        private int kindAt(int k) {
+            if (k < 0 || k >= size || k >= text.length) {
+                return END;
+            }
+            int sign = text[k];
+            if (sign == 9 || sign == 10 || sign == 32) {
+                return BLANK;
+            }
+            if (sign >= 'a' && sign <= 'z') {
+                return WORD;
+            }
+            return sign >= '0' && sign <= '9' ? NUMBER : SIGN;
         }
 
         boolean isEnd() {
@@ -974,29 +960,22 @@ public final class PlaneProof {
         boolean readText(int most) {
             signs.advance();
             for (int k = 0; k < most && !signs.isEnd(); k++) {
-                if (!readOne()) {
+                int firstWord = signs.start;
+                Line line = readUpToStop();
+                if (line == null) {
                     return false;
                 }
+                if (!signs.isSign(';')) {
+                    return wrongHere();
+                }
+                if (!isSound(line)) {
+                    faultAt = firstWord;
+                    return false;
+                }
+                signs.advance();
+                append(line);
             }
             return signs.isEnd() || wrongHere();
-        }
-
-        private boolean readOne() {
-            int firstWord = signs.start;
-            Line line = readUpToStop();
-            if (line == null) {
-                return false;
-            }
-            if (!signs.isSign(';')) {
-                return wrongHere();
-            }
-            if (!isSound(line)) {
-                faultAt = firstWord;
-                return false;
-            }
-            signs.advance();
-            append(line);
-            return true;
         }
 
         private void append(Line line) {
@@ -1025,30 +1004,22 @@ public final class PlaneProof {
         /** Reads lits into a clause while some stand here, and so many at least. */
         boolean readLits(Line clause, int least) {
             for (int k = 0; k <= VARIABLES; k++) {
-                boolean stands = signs.isAnyWord() || signs.isSign('-');
-                if (!stands && k >= least) {
+                boolean not = signs.isSign('-');
+                if (k >= least && !not && !signs.isAnyWord()) {
                     return true;
                 }
-                if (!readLit(clause, k)) {
-                    return false;
+                if (not) {
+                    signs.advance();
                 }
-            }
-            return wrongHere();
-        }
-
-        private boolean readLit(Line clause, int place) {
-            boolean not = signs.isSign('-');
-            if (not) {
+                int variable = signs.variable();
+                if (variable == NONE || clause.coefficients[variable] != 0) {
+                    return wrongHere();
+                }
+                clause.putLit(variable, not);
+                clause.told |= (variable + 1 | (not ? 8 : 0)) << 4 * k;
                 signs.advance();
             }
-            int variable = signs.variable();
-            if (variable == NONE || clause.coefficients[variable] != 0) {
-                return wrongHere();
-            }
-            clause.putLit(variable, not);
-            clause.told |= (variable + 1 | (not ? 8 : 0)) << 4 * place;
-            signs.advance();
-            return true;
+            return wrongHere();
         }
     }
 
@@ -1538,11 +1509,16 @@ public final class PlaneProof {
             isBuilt = true;
         }
 
+        /** Twos of which both were there a round ago have been tried already. */
         private void goRounds() {
             int seen = 0;
             for (int round = 1; round <= MOST_CLAUSES; round++) {
                 int before = size;
-                pairUp(seen, before);
+                for (int k = seen; k < before; k++) {
+                    for (int other = 0; other < k; other++) {
+                        resolve(found[k], found[other]);
+                    }
+                }
                 if (size == before) {
                     return;
                 }
@@ -1551,15 +1527,6 @@ public final class PlaneProof {
                     emptyRound = round;
                 }
                 seen = before;
-            }
-        }
-
-        /** Twos of which both were there a round ago have been tried already. */
-        private void pairUp(int seen, int before) {
-            for (int k = seen; k < before; k++) {
-                for (int other = 0; other < k; other++) {
-                    resolve(found[k], found[other]);
-                }
             }
         }
 
@@ -1655,9 +1622,14 @@ public final class PlaneProof {
             text = new byte[MOST_BYTES];
         }
 
-        void clear() {
+        /** Starts anew; room is how many bytes may come at most. */
+        void begin(int room) {
             size = 0;
             inLine = false;
+            if (room > text.length) {
+                // At least twice as long, so that texts that grow step by step need few new rows.
+                text = new byte[Math.max(room, 2 * text.length)];
+            }
         }
 
         void putWord(String word) {
@@ -1705,11 +1677,10 @@ public final class PlaneProof {
         }
 
         private void putByte(int sign) {
-            if (size >= text.length) {
-                text = Arrays.copyOf(text, text.length * 2);
+            if (size < text.length) {
+                text[size] = (byte) sign;
+                size++;
             }
-            text[size] = (byte) sign;
-            size++;
         }
 
         int byteAt(int k) {
@@ -1719,6 +1690,11 @@ public final class PlaneProof {
 
     /** Writes the lines that one needs, as they are or as planes. */
     private static final class Composer {
+        /** As many as has "clause 55 - a - b - c - d - e - f;". */
+        private static final int MOST_STEP_BYTES = 34;
+        /** As many as has "add 100 200;". */
+        private static final int MOST_PLANE_BYTES = 12;
+
         private final Scribe scribe;
         /** Of each line written as planes the number of the plane that says it. */
         private final int[] placed;
@@ -1730,7 +1706,7 @@ public final class PlaneProof {
         }
 
         void writeNeeded(Book book, long needed) {
-            scribe.clear();
+            scribe.begin(Long.bitCount(needed) * MOST_STEP_BYTES);
             for (int k = book.axioms; k < book.size; k++) {
                 if ((needed >>> k & 1L) != 0) {
                     writeStep(book, needed, book.lines[k]);
@@ -1793,24 +1769,21 @@ public final class PlaneProof {
         }
 
         void writeAsPlanes(Book book, long needed) {
-            scribe.clear();
+            scribe.begin(book.planeLinesFor(needed) * MOST_PLANE_BYTES);
             nextNumber = book.axioms;
             for (int k = 0; k < book.size; k++) {
-                if ((needed >>> k & 1L) != 0) {
-                    placed[k] = planeFor(book, k);
+                Line it = book.lines[k];
+                if ((needed >>> k & 1L) == 0) {
+                    continue;
+                }
+                if (it.how == WEAK) {
+                    placed[k] = writeWeak(it);
+                } else if (it.how == RES) {
+                    placed[k] = writeRes(book, it);
+                } else {
+                    placed[k] = writeOf(PLANE, k, NONE);
                 }
             }
-        }
-
-        private int planeFor(Book book, int line) {
-            Line it = book.lines[line];
-            if (it.how == WEAK) {
-                return writeWeak(it);
-            }
-            if (it.how == RES) {
-                return writeRes(book, it);
-            }
-            return writeOf(PLANE, line, NONE);
         }
 
         private int writeWeak(Line line) {

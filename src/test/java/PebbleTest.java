@@ -8,6 +8,7 @@ public final class PebbleTest {
         aPath();
         aPyramid();
         aSourceAsSink();
+        sixAtOnce();
         onlyWhatTheSinkNeeds();
         noSink();
         Check.finish("PebbleTest");
@@ -34,7 +35,7 @@ public final class PebbleTest {
 
     private static void wrongNodes() {
         PlaneProof x = of("source a;step b from a;step c from a;step d from a;step e from a;step f from a;");
-        for (int what : new int[] {-1, 3, 4, 9, 16, Integer.MIN_VALUE, Integer.MIN_VALUE + 9, Integer.MAX_VALUE}) {
+        for (int what : new int[] {-22, -1, 3, 4, 9, 16, 42, Integer.MIN_VALUE, Integer.MIN_VALUE + 9, Integer.MAX_VALUE}) {
             Check.fails("25: what " + what, NoSuchElementException.class, () -> x.node(what));
         }
         Check.same("25: no sink", -1, x.node(2));
@@ -64,6 +65,12 @@ public final class PebbleTest {
         PlaneProof x = of("source e;sink e;");
         moves(x, -1, 1, 1, 1, 1, 1, 1);
         Check.same("27: a source", 1, x.pebbles());
+    }
+
+    private static void sixAtOnce() {
+        PlaneProof x = of("source a;source b;source c;source d;source e;step f from a b c d e;sink f;");
+        moves(x, -1, -1, -1, -1, -1, -1, 6);
+        Check.same("27: all six", 6, x.pebbles());
     }
 
     private static void onlyWhatTheSinkNeeds() {

@@ -73,6 +73,8 @@ public final class TextTest {
         translated(x, 6, 3, "plane 2;plane 3;add 4 5;");
         translated(x, 7, 14,
             "plane 0;plane 1;add 4 5;low c;add 6 7;low d;add 8 9;top e;add 10 11;div 12 2;low f;add 13 14;top a;add 15 16;");
+        PlaneProof z = Check.told("or - a e f;or b - f e;", "res 0 1 f;");
+        translated(z, 2, 8, "plane 0;plane 1;add 2 3;top a;add 4 5;low b;add 6 7;div 8 2;");
         PlaneProof y = Check.told("or a b;or a - b;or - a b;or - a - b;", "res 0 1 b;res 2 3 b;res 4 5 a;");
         translated(y, 6, 9, "plane 0;plane 1;plane 2;plane 3;add 4 5;div 8 2;add 6 7;div 10 2;add 9 11;");
     }
@@ -91,8 +93,9 @@ public final class TextTest {
 
     /** More bytes and lines than a proof may have: it is written whole all the same. */
     private static void aLongTranslation() {
+        String claim = "or a b c d e;or - a b;or - b a;";
         PlaneProof x = new PlaneProof();
-        Check.claim(x, "or a b c d e;or - a b;or - b a;");
+        Check.claim(x, claim);
         StringBuilder proof = new StringBuilder("res 0 1 a;");
         for (int k = 3; k < 39; k += 2) {
             proof.append("weak").append(k).append(" a;res").append(k + 1).append(" 1a;");
@@ -109,6 +112,10 @@ public final class TextTest {
         int last = 3 + due - 1;
         Check.yes("29: its last line", text.endsWith(";div " + (last - 1) + " 2;"));
         Check.yes("29: numbers of three digits", last > 150);
+        Oracle oracle = new Oracle();
+        oracle.claim(claim);
+        oracle.proof(proof.toString());
+        Check.same("29: all of it", String.join("", oracle.asPlanes(line)), text);
         Check.yes("29: short of nothing", x.octet(bytes - 1) == ';' && x.octet(bytes) == -1);
     }
 
