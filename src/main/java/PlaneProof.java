@@ -1516,7 +1516,11 @@ public final class PlaneProof {
                 int before = size;
                 for (int k = seen; k < before; k++) {
                     for (int other = 0; other < k; other++) {
-                        resolve(found[k], found[other]);
+                        int clash = clashOf(found[k], found[other]);
+                        // With two that clash, either res leaves the other one both ways.
+                        if (clash != 0 && (clash & clash - 1) == 0) {
+                            putWithout(found[k] | found[other], clash);
+                        }
                     }
                 }
                 if (size == before) {
@@ -1530,13 +1534,13 @@ public final class PlaneProof {
             }
         }
 
-        /** With two variables that clash, either res leaves the other one both ways. */
-        private void resolve(int a, int b) {
-            int clash = a & b >>> VARIABLES | b & a >>> VARIABLES;
-            if (clash == 0 || (clash & clash - 1) != 0) {
-                return;
-            }
-            int left = (a | b) & ~(clash | clash << VARIABLES);
+        /** The variables that stand as V in one clause and as - V in the other. */
+        private static int clashOf(int a, int b) {
+            return a & b >>> VARIABLES | b & a >>> VARIABLES;
+        }
+
+        private void putWithout(int lits, int variable) {
+            int left = lits & ~(variable | variable << VARIABLES);
             if (Integer.bitCount(left) <= width) {
                 put(left & ALL_VARIABLES, left >>> VARIABLES);
             }
