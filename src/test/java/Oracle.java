@@ -393,14 +393,30 @@ final class Oracle {
         return found;
     }
 
+    /** All sets of axioms, one after another; each holds what its set without the lowest one leaves. */
     int core() {
+        long[] each = new long[axioms];
+        for (int k = 0; k < axioms; k++) {
+            each[k] = valuesOf(lines.get(k));
+        }
+        long[] left = new long[1 << axioms];
+        left[0] = -1L;
         int best = -1;
         for (int bits = 1; bits < 1 << axioms; bits++) {
-            if (best < 0 || Integer.bitCount(bits) < Integer.bitCount(best)) {
-                best = models(bits).isEmpty() ? bits : best;
-            }
+            int lowest = Integer.numberOfTrailingZeros(bits);
+            left[bits] = left[bits & bits - 1] & each[lowest];
+            boolean fewer = best < 0 || Integer.bitCount(bits) < Integer.bitCount(best);
+            best = left[bits] == 0 && fewer ? bits : best;
         }
         return best;
+    }
+
+    private static long valuesOf(Said line) {
+        long bits = 0;
+        for (int values = 0; values < 64; values++) {
+            bits |= line.holds(values) ? 1L << values : 0;
+        }
+        return bits;
     }
 
     TreeSet<Integer> needed(int line) {
