@@ -58,8 +58,8 @@ public final class LineTest {
 
     private static void planes() {
         PlaneProof x = made();
-        Check.same("9: an axiom", "2 4 -6 0 0 0 least 2", ProofTest.planeOf(x, 2));
-        Check.same("9: add", "4 8 -12 0 0 0 least 4", ProofTest.planeOf(x, 9));
+        Check.same("9: an axiom", "2 4 -6 0 0 0 least 2", Check.planeOf(x, 2));
+        Check.same("9: add", "4 8 -12 0 0 0 least 4", Check.planeOf(x, 9));
         for (int variable : new int[] {-2, 6, Integer.MIN_VALUE, Integer.MAX_VALUE}) {
             Check.fails("9: variable " + variable, IndexOutOfBoundsException.class, () -> x.plane(2, variable));
             Check.fails("9: of a clause too", IndexOutOfBoundsException.class, () -> x.plane(0, variable));

@@ -214,12 +214,12 @@ public final class ProofTest {
         Check.same("res, - V", 2, x.lits(3, true));
         Check.same("weak, V", 44, x.lits(4, false));
         Check.same("weak, - V", 18, x.lits(4, true));
-        Check.same("low", "0 0 1 0 0 0 least 0", planeOf(x, 5));
-        Check.same("top", "0 0 0 -1 0 0 least -1", planeOf(x, 6));
-        Check.same("plane", "1 -1 1 0 0 0 least 0", planeOf(x, 7));
-        Check.same("add", "4 -7 1 0 0 0 least 5", planeOf(x, 8));
-        Check.same("mul", "27 -54 0 0 0 0 least 45", planeOf(x, 9));
-        Check.same("div", "1 -2 0 0 0 0 least 2", planeOf(x, 10));
+        Check.same("low", "0 0 1 0 0 0 least 0", Check.planeOf(x, 5));
+        Check.same("top", "0 0 0 -1 0 0 least -1", Check.planeOf(x, 6));
+        Check.same("plane", "1 -1 1 0 0 0 least 0", Check.planeOf(x, 7));
+        Check.same("add", "4 -7 1 0 0 0 least 5", Check.planeOf(x, 8));
+        Check.same("mul", "27 -54 0 0 0 0 least 45", Check.planeOf(x, 9));
+        Check.same("div", "1 -2 0 0 0 0 least 2", Check.planeOf(x, 10));
         Check.same("clause, V", 1, x.lits(11, false));
         Check.same("clause, - V", 32, x.lits(11, true));
     }
@@ -248,13 +248,5 @@ public final class ProofTest {
         Check.same("6: no fault", -1, x.fault());
         Check.same("5: an empty one", 0, x.proof());
         Check.same("5: leaves the axioms", 4, x.count(1));
-    }
-
-    static String planeOf(PlaneProof x, int line) {
-        StringBuilder text = new StringBuilder();
-        for (int v = 0; v < 6; v++) {
-            text.append(x.plane(line, v)).append(' ');
-        }
-        return text.append("least ").append(x.plane(line, -1)).toString();
     }
 }

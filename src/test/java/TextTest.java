@@ -84,7 +84,7 @@ public final class TextTest {
         x.translate(4);
         String text = Check.written(x);
         int last = 2 + Check.proof(x, text);
-        Check.same("29: it says the same as a plane", "-1 -1 1 1 -1 1 least -2", ProofTest.planeOf(x, last));
+        Check.same("29: it says the same as a plane", "-1 -1 1 1 -1 1 least -2", Check.planeOf(x, last));
         PlaneProof y = Check.told("or a b;or a - b;or - a b;or - a - b;", "res 0 1 b;res 2 3 b;res 4 5 a;");
         y.translate(6);
         Check.proof(y, Check.written(y));
