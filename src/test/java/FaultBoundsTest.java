@@ -296,6 +296,14 @@ public final class FaultBoundsTest {
         Check.says("where all L are right, what cannot be: of res at the V, of weak at the V that is there already, "
             + "of add at the second L, of mul, div at the N;");
         wrong("res 1 0 ^a;");
+        // Both have V, both have - V, one has it not at all, or both leave a VARIABLE both ways.
+        wrong("res 0 0 ^a;");
+        wrong("res 1 1 ^a;");
+        wrong("weak 0 c;res 0 4 ^a;");
+        wrong("weak 1 c;res 1 4 ^a;");
+        wrong("weak 1 c;res 4 1 ^a;");
+        wrong("weak 1 c;res 4 0 ^c;");
+        wrong("weak 1 - c;res 0 4 ^c;");
         wrong("res 0 2 ^a");
         wrong("res 0 1 ^c x");
         wrong("weak 0 ^a;");
